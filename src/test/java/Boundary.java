@@ -83,7 +83,7 @@ abstract class Boundary {
         }
     }
 
-    /** The call must throw exactly this, and leave all as it is in a loft without the call. */
+    /** The call must itself throw exactly this, and leave all as it is in a loft without the call. */
     static void refuses(
             String name, Class<? extends RuntimeException> due, Supplier<HerbLoft> loft, Consumer<HerbLoft> call) {
         begin(name);
@@ -92,14 +92,14 @@ abstract class Boundary {
         if (called == null || other == null) {
             return;
         }
-        Class<?> got = null;
+        String fault = "threw nothing, due is " + due;
         try {
             call.accept(called);
         } catch (RuntimeException e) {
-            got = e.getClass();
+            fault = Check.faultOf(e, due);
         }
-        if (got != due) {
-            wrong(name, "threw " + got + ", due is " + due);
+        if (fault != null) {
+            wrong(name, fault);
         }
         mustBeAlike(name, called, other);
     }

@@ -24,18 +24,33 @@ final class Check {
     /** The call must throw exactly this, and leave the loft as it was. */
     static void fails(String call, Class<? extends RuntimeException> want, HerbLoft loft, Runnable run) {
         long before = loft.digest();
-        Class<?> got = null;
+        String fault = "threw nothing, due is " + want;
         try {
             run.run();
         } catch (RuntimeException e) {
-            got = e.getClass();
+            fault = faultOf(e, want);
         }
-        if (got != want) {
-            note(call + " threw " + got + ", due is " + want);
+        if (fault != null) {
+            note(call + " " + fault);
         }
         if (loft.digest() != before) {
             note(call + " changed the loft");
         }
+    }
+
+    /**
+     * What is wrong with an exception that is to be of this class and thrown by a statement of the
+     * loft's own, not by the machine or its library; null if nothing is.
+     */
+    static String faultOf(RuntimeException got, Class<? extends RuntimeException> want) {
+        StackTraceElement[] trace = got.getStackTrace();
+        if (got.getClass() != want) {
+            return "threw " + got.getClass() + ", due is " + want;
+        }
+        if (trace.length == 0 || !trace[0].getClassName().startsWith("HerbLoft")) {
+            return "did not throw itself: " + got;
+        }
+        return null;
     }
 
     static void note(String text) {

@@ -196,6 +196,10 @@ public final class HerbsAndBundlesBoundaryTest extends Boundary {
         answers("wetness 0", hung(2, 2, 0), x -> each(x.take(2, 2), x.count(2)), 0, 0);
         answers("wetness 100", hung(2, 2, 100), x -> each(x.take(2, 2)), 100);
         answers("wetness is cut: front 49, back 50", hung(0, 0, 50), x -> each(x.pass(1, 0), x.take(0, 0)), 0, 49);
+        answers("the wetness of both sides: front 46, back 50", hung(0, 0, 50),
+                x -> each(x.pass(4, 0), x.take(0, 0)), 1, 48);
+        answers("the wetness of both sides, turned: front 50, back 46", hung(0, 0, 50),
+                x -> each(x.pass(4, 0), x.turn(0), x.take(0, 0)), 1, 1, 48);
         answers("a mouldy one", hung(0, 0, 100), x -> each(x.pass(3, 9), x.take(0, 0), x.count(3)), 1, 100, 0);
         answers("those beside it lose a neighbour", hung(2, 1, 50, 2, 2, 60, 2, 3, 50),
                 x -> each(x.told(2, 1, 6), x.told(2, 1, 7), x.take(2, 2), x.told(2, 1, 6), x.told(2, 1, 7),
@@ -370,6 +374,7 @@ public final class HerbsAndBundlesBoundaryTest extends Boundary {
         answers("open by 3", EMPTY, x -> each(x.setWindow(3), x.count(7)), 0, 3);
         answers("from 3 to 0", EMPTY, x -> each(x.setWindow(3), x.setWindow(0), x.count(7)), 0, 3, 0);
         answers("as it was already", EMPTY, x -> each(x.setWindow(3), x.setWindow(3), x.count(7)), 0, 3, 3);
+        answers("a full loft", FULL, x -> each(x.setWindow(3), x.count(7)), 0, 3);
         answers("it is open from now on, not only for a day", hung(0, 0, 100),
                 x -> each(x.setWindow(3), x.pass(2, 0), x.told(0, 0, 1), x.count(7)), 0, 0, 86, 3);
         refusesOutside("open", 0, 3, ARGUMENT, EMPTY, (x, n) -> x.setWindow(n));

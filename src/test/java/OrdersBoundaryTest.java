@@ -146,6 +146,11 @@ public final class OrdersBoundaryTest extends Boundary {
         answers("61 of 60", hung(0, 0, 61), x -> each(x.order(0, 1, 60), x.fill()), 0, 0);
         answers("wetness is cut: 40 and 41 are 40", hung(0, 0, 41),
                 x -> each(x.pass(1, 0), x.order(0, 1, 40), x.fill()), 0, 0, 1);
+        answers("wetness 41 of front 40, back 43: not 40", hung(4, 0, 45),
+                x -> each(x.pass(1, 0), x.order(0, 1, 40), x.fill(), x.order(0, 1, 41), x.fill()), 0, 0, 0, 1, 1);
+        answers("wetness 41 of front 43, back 40: not 40", hung(4, 0, 45),
+                x -> each(x.pass(1, 0), x.turn(4), x.order(0, 1, 40), x.fill(), x.order(0, 1, 41), x.fill()),
+                0, 1, 0, 0, 1, 1);
         answers("two wet days, no mould", hung(0, 0, 40), x -> each(x.pass(2, 9), x.order(0, 1, 40), x.fill()), 0, 0, 1);
         answers("mould of 1", hung(0, 0, 40),
                 x -> each(x.pass(3, 9), x.order(0, 1, 40), x.fill(), x.count(2)), 1, 0, 0, 1);

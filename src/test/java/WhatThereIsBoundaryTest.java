@@ -166,6 +166,16 @@ public final class WhatThereIsBoundaryTest extends Boundary {
                     x.pass(1, 0);
                     return allAbout(x, 0);
                 }, 1, 20, 1, 0, 29);
+        answers("wetness is of both sides: front 25, back 28", hung(4, 0, 30),
+                x -> each(x.pass(1, 0), x.about(0, 4), x.turn(4), x.about(0, 4)), 0, 26, 1, 26);
+        answers("wetness 23 of front 20, back 26 is not less than 21", hung(4, 0, 30),
+                x -> each(x.pass(2, 0), x.hang(0, 0, 0, 21), x.about(0, 4)), 0, 2, 21);
+        answers("wetness 23 of front 26, back 20 is not less than 21", hung(4, 0, 30),
+                x -> each(x.pass(2, 0), x.turn(4), x.hang(0, 0, 0, 21), x.about(0, 4)), 0, 1, 2, 21);
+        answers("wetness 23 of front 26, back 20 is less than 24", hung(4, 0, 30),
+                x -> each(x.pass(2, 0), x.turn(4), x.hang(0, 0, 0, 24), x.about(0, 4)), 0, 1, 2, 23);
+        answers("wetness 23 of front 20, back 26 is less than 24", hung(4, 0, 30),
+                x -> each(x.pass(2, 0), x.hang(0, 0, 0, 24), x.about(0, 4)), 0, 2, 23);
         answers("all have mould: no least wetness", hung(0, 0, 30),
                 x -> {
                     x.pass(3, 9);

@@ -240,7 +240,7 @@ public final class WhatWouldBeBoundaryTest extends Boundary {
         x.hang(4, 0, 1, 88);
         x.hang(4, 1, 2, 0);
         for (int i = 0; i < onString0; i++) {
-            x.hang(0, 2 * i, 2, 70);
+            x.hang(0, i, 2, 70);
         }
         for (int i = 0; i < onString4; i++) {
             x.hang(4, 3 + 2 * i, 2, 88);
@@ -279,7 +279,8 @@ public final class WhatWouldBeBoundaryTest extends Boundary {
         answers("as many less with mould, the same sum: the smaller number", () -> mouldy(0, 0),
                 x -> each(x.advise(2, 0)), 3);
         answers("as many less with mould, a smaller sum", () -> mouldy(0, 1), x -> each(x.advise(2, 0)), 4);
-        answers("fewer with mould before a smaller sum", () -> mouldy(3, 0), x -> each(x.advise(2, 0)), 3);
+        answers("fewer with mould before a sum less by 21", () -> mouldy(3, 0), x -> each(x.advise(2, 0)), 3);
+        answers("fewer with mould before a sum less by 56", () -> mouldy(8, 0), x -> each(x.advise(2, 0)), 3);
         answers("no neighbours to get mould: the smallest sum", () -> mouldy(3, 0),
                 x -> each(x.take(3, 1), x.take(4, 1), x.advise(2, 0)), 0, 0, 0);
         answers("more with mould, a smaller sum: none", () -> mouldyIfTurned(2, true),
