@@ -72,6 +72,12 @@ public final class HerbsAndBundlesBoundaryTest extends Boundary {
             }
             return each(x.told(0, 0, 4));
         }, 509 * 60);
+        answers("the 512th call answers still, behind the dearest ones", FULL, x -> {
+            for (int i = 0; i < 459; i++) {
+                x.advise(30, 0);
+            }
+            return each(x.advise(30, 0));
+        }, -1);
         endPromise();
     }
 
@@ -266,6 +272,14 @@ public final class HerbsAndBundlesBoundaryTest extends Boundary {
                 1, 0, 0, 86, 90, 4, 2, -1, -1);
         answers("herb 5 of 6 comes along", SIX_HERBS,
                 x -> each(x.hang(0, 0, 5, 50), x.move(0, 0, 3, 3), x.told(3, 3, 0)), 1, 0, 5);
+        answers("along its string the sides, wet days and mould come along", hung(0, 0, 90),
+                x -> each(x.pass(4, 0), x.move(0, 0, 0, 5), x.told(0, 5, 0), x.told(0, 5, 1), x.told(0, 5, 2),
+                        x.told(0, 5, 4), x.told(0, 5, 5)),
+                1, 0, 0, 86, 90, 4, 2);
+        answers("herb 5 of 6 comes along its string", SIX_HERBS,
+                x -> each(x.hang(0, 0, 5, 50), x.move(0, 0, 0, 1), x.told(0, 1, 0)), 1, 0, 5);
+        answers("a mould of 9 comes along", hung(0, 0, 100),
+                x -> each(x.pass(60, 9), x.move(0, 0, 3, 3), x.told(3, 3, 4), x.told(3, 3, 5)), 1, 0, 60, 9);
         answers("a dry bundle", hung(0, 0, 0), x -> each(x.move(0, 0, 3, 3), x.told(3, 3, 3)), 0, 0);
         answers("to the only free hook, in the middle", () -> fullBut(2, 3),
                 x -> each(x.move(0, 0, 2, 3), x.told(2, 3, 3), x.told(0, 0, 0), x.count(2)), 2, 10, -1, 39);

@@ -74,9 +74,14 @@ public final class WhatWouldBeBoundaryTest extends Boundary {
 
     private static void untilOfNeighbours() {
         answers("alone", hung(3, 0, 0, 50), x -> each(x.until(0, 0, 48, 0), x.until(0, 0, 46, 0)), 1, 2);
-        answers("beside a wetter one", hung(3, 0, 0, 50, 0, 1, 99), x -> each(x.until(0, 0, 47, 0)), 2);
-        answers("beside one that is wetter for a day", hung(3, 0, 0, 50),
-                x -> each(x.herb(9, 90), x.hang(0, 1, 1, 51), x.until(0, 0, 48, 0), x.until(0, 0, 46, 0)), 1, 2, 1, 2);
+        answers("beside a wetter one", hung(3, 0, 0, 50, 0, 1, 99), x -> each(x.until(0, 0, 46, 0)), 3);
+        answers("beside two wetter ones", hung(3, 0, 0, 99, 0, 1, 50, 0, 2, 99), x -> each(x.until(0, 1, 46, 0)), 7);
+        answers("beside a drier one", hung(3, 0, 0, 50, 0, 1, 49), x -> each(x.until(0, 0, 46, 0)), 2);
+        // Force 4, or 3 beside a wetter one: on the first day alone it is so here.
+        answers("beside one that is wetter for a day", hung(4, 0, 0, 50),
+                x -> each(x.herb(9, 90), x.until(0, 0, 41, 0), x.hang(0, 1, 1, 51), x.until(0, 0, 41, 0)), 1, 3, 2, 4);
+        answers("beside one that is wetter on all days", hung(4, 0, 0, 50, 0, 1, 99),
+                x -> each(x.until(0, 0, 41, 0)), 5);
         answers("beside a wetter one of the next string", hung(3, 0, 7, 50, 1, 0, 99),
                 x -> each(x.until(0, 7, 46, 0)), 2);
     }
@@ -113,6 +118,12 @@ public final class WhatWouldBeBoundaryTest extends Boundary {
         answers("mould that is there", hung(1, 0, 0, 100), x -> each(x.pass(3, 9), x.foresee(1, 9, 3)), 1, 1);
         answers("mould that goes on to a neighbour", hung(1, 0, 0, 100, 0, 1, 0),
                 x -> each(x.foresee(5, 9, 3), x.foresee(6, 9, 3)), 1, 2);
+        answers("mould 3 that is there goes on the day behind", hung(1, 0, 0, 100),
+                x -> each(x.pass(5, 9), x.hang(0, 1, 0, 0), x.foresee(1, 9, 3)), 1, 2, 2);
+        answers("mould 2 that is there goes on a day later", hung(1, 0, 0, 100),
+                x -> each(x.pass(4, 9), x.hang(0, 1, 0, 0), x.foresee(1, 9, 3), x.foresee(2, 9, 3)), 1, 2, 1, 2);
+        answers("a wetter neighbour", hung(5, 0, 0, 50),
+                x -> each(x.foresee(1, 4, 8), x.hang(0, 1, 0, 60), x.foresee(1, 4, 8)), 49, 2, 109);
         answers("the window open by 3", hung(9, 0, 0, 50), x -> each(x.setWindow(3), x.foresee(1, 0, 8)), 0, 39);
         answers("a full loft", FULL,
                 x -> each(x.foresee(60, 9, 3), x.foresee(60, 9, 8), x.foresee(1, 6, 3), x.foresee(1, 6, 8)),
@@ -203,6 +214,10 @@ public final class WhatWouldBeBoundaryTest extends Boundary {
                 x -> each(x.told(0, 0, 1), x.told(0, 0, 2), x.advise(1, 4)), 0, 12, 0);
         answers("the same sum, since it is cut: back 11, force 1", () -> behind(5, hung(5, 0, 0, 21)),
                 x -> each(x.told(0, 0, 1), x.told(0, 0, 2), x.advise(1, 4)), 0, 11, -1);
+        answers("the same sum: a wetter neighbour takes the force of 1", () -> behind(4, hung(5, 0, 0, 20)),
+                x -> each(x.hang(0, 1, 0, 100), x.advise(1, 4), x.take(0, 1), x.advise(1, 4)), 2, -1, 100, 0);
+        answers("a sum less by 1: a neighbour as wet takes no force", () -> behind(4, hung(5, 0, 0, 20)),
+                x -> each(x.hang(0, 1, 0, 6), x.advise(1, 4)), 2, 0);
         answers("the same sum, without force", () -> behind(4, hung(5, 0, 0, 20)), x -> each(x.advise(1, 5)), -1);
         answers("a greater sum", () -> behind(4, hung(5, 0, 0, 20)), x -> each(x.turn(0), x.advise(1, 4)), 1, -1);
         answers("damp 0, force 9", () -> behind(6, hung(9, 0, 0, 50)),
@@ -235,6 +250,12 @@ public final class WhatWouldBeBoundaryTest extends Boundary {
         x.herb(8, 20);
         x.herb(8, 90);
         x.setWindow(3);
+        hangMouldy(x, onString0, onString4);
+        x.pass(4, 0);
+        return x;
+    }
+
+    private static void hangMouldy(HerbLoft x, int onString0, int onString4) {
         x.hang(3, 0, 0, 88);
         x.hang(3, 1, 2, 0);
         x.hang(4, 0, 1, 88);
@@ -245,8 +266,6 @@ public final class WhatWouldBeBoundaryTest extends Boundary {
         for (int i = 0; i < onString4; i++) {
             x.hang(4, 3 + 2 * i, 2, 88);
         }
-        x.pass(4, 0);
-        return x;
     }
 
     /**
@@ -273,6 +292,27 @@ public final class WhatWouldBeBoundaryTest extends Boundary {
         return x;
     }
 
+    /**
+     * As mouldy(3, 0) is, but that a dry bundle with a mould of 9 hangs on the other side of each
+     * dry one, whose mould it will be, turned or not.
+     */
+    private static HerbLoft mouldyAnyhow() {
+        HerbLoft x = new HerbLoft();
+        x.herb(9, 20);
+        x.herb(8, 20);
+        x.herb(8, 90);
+        x.hang(2, 0, 0, 100);
+        x.hang(2, 4, 0, 100);
+        x.pass(20, 9);
+        x.setWindow(3);
+        x.pass(20, 0);
+        hangMouldy(x, 3, 0);
+        x.pass(4, 0);
+        x.move(2, 0, 3, 2);
+        x.move(2, 4, 4, 2);
+        return x;
+    }
+
     private static void adviseByMould() {
         answers("as they hang: mould and sum", () -> mouldy(0, 0),
                 x -> each(x.count(3), x.foresee(2, 0, 3), x.foresee(2, 0, 8)), 2, 4, 34);
@@ -283,6 +323,15 @@ public final class WhatWouldBeBoundaryTest extends Boundary {
         answers("fewer with mould before a sum less by 56", () -> mouldy(8, 0), x -> each(x.advise(2, 0)), 3);
         answers("no neighbours to get mould: the smallest sum", () -> mouldy(3, 0),
                 x -> each(x.take(3, 1), x.take(4, 1), x.advise(2, 0)), 0, 0, 0);
+        answers("mould of 9 that goes on anyhow: the smallest sum", () -> mouldyAnyhow(),
+                x -> each(x.told(3, 2, 5), x.told(4, 2, 5), x.count(3), x.foresee(2, 0, 3), x.advise(2, 0)),
+                9, 9, 4, 6, 0);
+        answers("mould of 3 that goes on, turned or not: none", hung(1, 0, 0, 100),
+                x -> each(x.pass(5, 9), x.hang(0, 1, 0, 0), x.foresee(1, 9, 3), x.advise(1, 9)), 1, 2, 2, -1);
+        answers("mould of 9 that goes on, turned or not: a smaller sum", hung(1, 0, 0, 100),
+                x -> each(x.pass(20, 9), x.herb(4, 90), x.hang(1, 0, 1, 20), x.pass(4, 0), x.hang(0, 1, 0, 0),
+                        x.foresee(1, 4, 3), x.advise(1, 4)),
+                1, 1, 2, 1, 3, 2, 1);
         answers("more with mould, a smaller sum: none", () -> mouldyIfTurned(2, true),
                 x -> each(x.foresee(2, 0, 3), x.foresee(2, 0, 8), x.advise(2, 0), x.turn(4), x.foresee(2, 0, 3),
                         x.foresee(2, 0, 8)),

@@ -28,7 +28,8 @@ public final class WhatWouldBeTest {
         Check.due("until(3, 0, 74, 0)", x.until(3, 0, 74, 0), 2);
         Check.due("until(3, 0, 71, 0)", x.until(3, 0, 71, 0), 2);
         Check.due("until(3, 0, 75, 3), of more damp", x.until(3, 0, 75, 3), 3);
-        Check.due("until(0, 0, 77, 0), beside a wetter one", x.until(0, 0, 77, 0), 2);
+        Check.due("until(0, 0, 76, 0), beside a wetter one", x.until(0, 0, 76, 0), 3);
+        Check.due("until(0, 1, 84, 0), beside a drier one", x.until(0, 1, 84, 0), 3);
         Check.due("until(0, 0, 79, 9)", x.until(0, 0, 79, 9), -1);
         Check.due("until(0, 2, 50, 0), empty", x.until(0, 2, 50, 0), -1);
         Check.due("until(0, 2, 100, 0), empty", x.until(0, 2, 100, 0), -1);
